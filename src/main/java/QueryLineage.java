@@ -526,7 +526,6 @@ public final class QueryLineage {
             width = 1;
         }
 
-        @Override
         void trace() {
             int columnsToTrace = width;
             width = 0;
@@ -627,7 +626,6 @@ public final class QueryLineage {
             return breaksWith(growing) || width >= MAX_COLUMNS && growsWith(growing);
         }
 
-        @Override
         final void trace() {
             width = 0;
             ancestors = withAncestors(first) | withAncestors(second);
@@ -666,21 +664,18 @@ public final class QueryLineage {
             super(number, source, source);
         }
 
-        @Override
         void traceColumns() {
             for (int column = 0; column < first.width; column++) {
                 traceLike(first, column);
             }
         }
 
-        @Override
         void show() {
             for (int row = 0; row < first.height; row++) {
                 copyRow(first, row);
             }
         }
 
-        @Override
         boolean growsWith(int growing) {
             return contains(growing, first);
         }
@@ -698,7 +693,6 @@ public final class QueryLineage {
             this.thirdPicked = thirdPicked;
         }
 
-        @Override
         void traceColumns() {
             traceLike(first, firstPicked);
             if (secondPicked != NO_COLUMN) {
@@ -710,7 +704,6 @@ public final class QueryLineage {
         }
 
         /** Columns that are not picked are not columns here either, so that put passes them over. */
-        @Override
         void show() {
             for (int row = 0; row < first.height; row++) {
                 int target = appendRow();
@@ -720,7 +713,6 @@ public final class QueryLineage {
             }
         }
 
-        @Override
         boolean growsWith(int growing) {
             return false;
         }
@@ -736,7 +728,6 @@ public final class QueryLineage {
             this.least = least;
         }
 
-        @Override
         void traceColumns() {
             deciders |= first.origin(toldColumn);
             for (int column = 0; column < first.width; column++) {
@@ -745,7 +736,6 @@ public final class QueryLineage {
             }
         }
 
-        @Override
         void show() {
             for (int row = 0; row < first.height; row++) {
                 int value = first.at(row, toldColumn);
@@ -755,7 +745,6 @@ public final class QueryLineage {
             }
         }
 
-        @Override
         boolean growsWith(int growing) {
             return contains(growing, first);
         }
@@ -773,7 +762,6 @@ public final class QueryLineage {
             this.isOuter = isOuter;
         }
 
-        @Override
         void traceColumns() {
             deciders |= first.origin(firstTold) | second.origin(secondTold);
             for (int column = 0; column < first.width; column++) {
@@ -788,7 +776,6 @@ public final class QueryLineage {
             }
         }
 
-        @Override
         void show() {
             for (int row = 0; row < first.height && !tooMany; row++) {
                 int value = first.at(row, firstTold);
@@ -812,12 +799,10 @@ public final class QueryLineage {
             copyInto(target, second, other, first.width);
         }
 
-        @Override
         boolean growsWith(int growing) {
             return contains(growing, second);
         }
 
-        @Override
         boolean breaksWith(int growing) {
             return contains(growing, first);
         }
@@ -828,7 +813,6 @@ public final class QueryLineage {
             super(number, first, second);
         }
 
-        @Override
         void traceColumns() {
             for (int column = 0; column < first.width; column++) {
                 boolean isFilled = first.isFilled(column) && second.isFilled(column);
@@ -836,7 +820,6 @@ public final class QueryLineage {
             }
         }
 
-        @Override
         void show() {
             for (int row = 0; row < first.height; row++) {
                 copyRow(first, row);
@@ -846,12 +829,10 @@ public final class QueryLineage {
             }
         }
 
-        @Override
         boolean growsWith(int growing) {
             return contains(growing, first) && contains(growing, second);
         }
 
-        @Override
         boolean breaksWith(int growing) {
             return contains(growing, first) != contains(growing, second);
         }
@@ -867,7 +848,6 @@ public final class QueryLineage {
             this.summed = summed;
         }
 
-        @Override
         void traceColumns() {
             deciders |= first.origin(group);
             appendColumn(first.origin(group), first.isFilled(group), true);
@@ -875,7 +855,6 @@ public final class QueryLineage {
         }
 
         /** There are no more groups than rows, so that as many rounds as rows find them all. */
-        @Override
         void show() {
             int value = groupAfter(NOTHING);
             for (int round = 0; round < first.height && value != NOTHING; round++) {
@@ -915,7 +894,6 @@ public final class QueryLineage {
             return total;
         }
 
-        @Override
         boolean growsWith(int growing) {
             return false;
         }

@@ -11,6 +11,7 @@ public final class ShowsTest {
         cells();
         nullsAndDoubles();
         limits();
+        limitOfOneSource();
         limitsComeAndGo();
         largeSums();
         Check.end();
@@ -92,6 +93,25 @@ public final class ShowsTest {
         Check.same("columns can be asked for", x.columns(5), 2);
         Check.same("rows of a source", x.rows(4), 64);
         Check.same("rows of another relation", x.rows(8), 4);
+    }
+
+    /** Few rows do not help if one of the sources has too many. */
+    private static void limitOfOneSource() {
+        QueryLineage x = Fixture.sixtyFourRows();
+        x.pick(2, 1, -1, -1);
+        x.union(3, 3);
+        x.addTable();
+        x.join(5, 4, 0, 0, false);
+        x.join(4, 5, 0, 0, false);
+        x.addRow(5);
+        x.set(5, 0, 0, 50);
+        Check.fails("128 rows", STATE, () -> x.rows(4));
+        Check.fails("second source", STATE, () -> x.rows(6));
+        Check.fails("first source", STATE, () -> x.rows(7));
+        x.set(0, 0, 1, 1);
+        Check.same("56 rows", x.rows(4), 56);
+        Check.same("no rows", x.rows(6), 0);
+        Check.same("no rows", x.rows(7), 0);
     }
 
     private static void limitsComeAndGo() {

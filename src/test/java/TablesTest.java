@@ -110,6 +110,10 @@ public final class TablesTest {
         picked.join(1, 0, 0, 0, false);
         Check.same("a pick ahead of a join does not grow", picked.addColumn(0, false), 2);
         Check.same("columns of the join", picked.columns(2), 3);
+        picked.sum(0, 0, 1);
+        picked.join(3, 0, 0, 0, false);
+        Check.same("a sum ahead of a join does not grow", picked.addColumn(0, false), 3);
+        Check.same("columns of the join behind it", picked.columns(4), 5);
     }
 
     /** Makes table 0 and 1 with that many columns. */
