@@ -1,9 +1,14 @@
-/** Long runs of calls, right ones and wrong ones, whose answers are compared with those of the model. */
+/**
+ * Long runs of calls, right ones and wrong ones, whose answers are compared with those of the model. Each run asks its
+ * object exactly as many calls as the document allows.
+ */
 public final class ModelTest {
-    private static final int RUNS = 1500;
-    private static final int CALLS = 220;
+    private static final int RUNS = 3500;
+    private static final int CALLS = 512;
+    private static final int CALLS_BEFORE_CHECKS = 220;
 
     private long state;
+    private int calls;
     private QueryLineage x;
     private Model y;
 
@@ -19,17 +24,30 @@ public final class ModelTest {
         x = new QueryLineage();
         y = new Model();
         int tables = 1 + below(3);
-        for (int call = 0; call < CALLS; call++) {
-            if (call < tables) {
+        while (calls < CALLS_BEFORE_CHECKS) {
+            if (calls < tables) {
                 compare("addTable", () -> x.addTable(), () -> y.addTable());
-            } else if (call < 6 + tables * 5) {
+            } else if (calls < 6 + tables * 5) {
                 table(below(4));
             } else {
                 call(below(100));
             }
         }
-        compareTraces(run);
-        checkWhatIsTold(run);
+        check(run);
+        while (calls < CALLS) {
+            call(below(100));
+        }
+        Check.same("run " + run + ": calls", calls, CALLS);
+    }
+
+    /** Few relations in each run, as the calls are counted. */
+    private void check(int run) {
+        int part = run % 7;
+        if (part < 2) {
+            compareTraces("run " + run + " ", part * 5, part * 5 + 5);
+        } else {
+            checkWhatIsTold("run " + run + " ", part * 2 - 4, part * 2 - 2);
+        }
     }
 
     private void call(int kind) {
@@ -115,48 +133,58 @@ public final class ModelTest {
         }
     }
 
-    private void compareTraces(int run) {
-        for (int i = 0; i < x.relations(); i++) {
+    private void compareTraces(String run, int first, int end) {
+        for (int i = first; i < end && i < y.relations(); i++) {
             int r = i;
-            compare("run " + run + " controls " + r, () -> x.controls(r), () -> y.controls(r));
-            compare("run " + run + " users " + r, () -> x.users(r), () -> y.users(r));
-            compare("run " + run + " mean " + r, () -> x.meanValues(r), () -> y.meanValues(r));
-            for (int j = 0; j < x.columns(r); j++) {
+            compare(run + "controls " + r, () -> x.controls(r), () -> y.controls(r));
+            compare(run + "users " + r, () -> x.users(r), () -> y.users(r));
+            compare(run + "mean " + r, () -> x.meanValues(r), () -> y.meanValues(r));
+            for (int j = 0; j < y.columns(r); j++) {
                 int c = j;
-                compare("run " + run + " values", () -> x.values(r, c), () -> y.values(r, c));
-                compare("run " + run + " null", () -> x.isNeverNull(r, c), () -> y.isNeverNull(r, c));
-                compare("run " + run + " twice", () -> x.isNeverTwice(r, c), () -> y.isNeverTwice(r, c));
-                compare("run " + run + " nulls", () -> x.nulls(r, c), () -> y.nulls(r, c));
-                compare("run " + run + " doubles", () -> x.doubles(r, c), () -> y.doubles(r, c));
-                compare("run " + run + " share", () -> x.affectedShare(r, c), () -> y.affectedShare(r, c));
+                compare(run + "values", () -> x.values(r, c), () -> y.values(r, c));
+                compare(run + "null", () -> x.isNeverNull(r, c), () -> y.isNeverNull(r, c));
+                compare(run + "twice", () -> x.isNeverTwice(r, c), () -> y.isNeverTwice(r, c));
+                compare(run + "nulls", () -> x.nulls(r, c), () -> y.nulls(r, c));
+                compare(run + "doubles", () -> x.doubles(r, c), () -> y.doubles(r, c));
+                compare(run + "share", () -> x.affectedShare(r, c), () -> y.affectedShare(r, c));
             }
         }
     }
 
     /** What is told unaffected never changes; and what is told never null or never twice is so. */
-    private void checkWhatIsTold(int run) {
-        for (int r = 0; r < x.relations(); r++) {
-            for (int c = 0; c < x.columns(r); c++) {
+    private void checkWhatIsTold(String run, int first, int end) {
+        for (int r = first; r < end && r < y.relations(); r++) {
+            for (int c = 0; c < y.columns(r); c++) {
                 int relation = r;
                 int column = c;
-                if (!Check.outcome(() -> x.rows(relation)).equals("IllegalStateException")) {
-                    Check.same("run " + run + " never null", x.isNeverNull(r, c) && x.nulls(r, c) > 0, false);
-                    Check.same("run " + run + " never twice", x.isNeverTwice(r, c) && x.doubles(r, c) > 0, false);
+                if (asked(() -> x.isNeverNull(relation, column)).equals("true")) {
+                    String nulls = asked(() -> x.nulls(relation, column));
+                    Check.same(run + "never null", nulls.equals("0") || nulls.equals("IllegalStateException"), true);
+                }
+                if (asked(() -> x.isNeverTwice(relation, column)).equals("true")) {
+                    String doubles = asked(() -> x.doubles(relation, column));
+                    Check.same(run + "never twice", doubles.equals("0") || doubles.equals("IllegalStateException"),
+                        true);
                 }
                 for (int row = 0; row < 4; row++) {
                     int changed = row;
                     int told = below(3);
                     int value = number(4);
-                    String effect = Check.outcome(() -> x.effect(0, told, relation, column));
-                    String changes = Check.outcome(() -> x.changes(0, changed, told, value, relation, column));
-                    Check.same("run " + run + " unaffected", effect.equals("n") && changes.equals("true"), false);
+                    String effect = asked(() -> x.effect(0, told, relation, column));
+                    String changes = asked(() -> x.changes(0, changed, told, value, relation, column));
+                    Check.same(run + "unaffected", effect.equals("n") && changes.equals("true"), false);
                 }
             }
         }
     }
 
+    private String asked(Check.Call call) {
+        calls++;
+        return Check.outcome(call);
+    }
+
     private void compare(String what, Check.Call one, Check.Call other) {
-        Check.same(what, Check.outcome(one), Check.outcome(other));
+        Check.same(what, asked(one), Check.outcome(other));
     }
 
     /** Mostly one that is there. */

@@ -67,8 +67,7 @@ public final class TablesTest {
     }
 
     private static void addColumnUnderViews() {
-        QueryLineage tooWide = new QueryLineage();
-        fill(tooWide, 4, 1);
+        QueryLineage tooWide = Fixture.twoTables(4, 1);
         tooWide.join(0, 1, 0, 0, false);
         tooWide.star(2);
         Check.same("2nd source of a join grows", tooWide.addColumn(1, true), 2);
@@ -80,13 +79,11 @@ public final class TablesTest {
         Check.same("columns of the refused table", tooWide.columns(1), 4);
         Check.fails("first source of a join", UNSUPPORTED, () -> tooWide.addColumn(0, true));
 
-        QueryLineage full = new QueryLineage();
-        fill(full, 5, 1);
+        QueryLineage full = Fixture.twoTables(5, 1);
         full.join(0, 1, 0, 0, false);
         Check.fails("4 columns come before views", STATE, () -> full.addColumn(0, true));
 
-        QueryLineage united = new QueryLineage();
-        fill(united, 1, 1);
+        QueryLineage united = Fixture.twoTables(1, 1);
         united.union(0, 1);
         Check.fails("one source of a union", UNSUPPORTED, () -> united.addColumn(0, true));
         QueryLineage doubled = new QueryLineage();
@@ -114,18 +111,6 @@ public final class TablesTest {
         picked.join(3, 0, 0, 0, false);
         Check.same("a sum ahead of a join does not grow", picked.addColumn(0, false), 3);
         Check.same("columns of the join behind it", picked.columns(4), 5);
-    }
-
-    /** Makes table 0 and 1 with that many columns. */
-    private static void fill(QueryLineage x, int first, int second) {
-        x.addTable();
-        x.addTable();
-        for (int column = 1; column < first; column++) {
-            x.addColumn(0, true);
-        }
-        for (int column = 1; column < second; column++) {
-            x.addColumn(1, true);
-        }
     }
 
     private static void addRow() {

@@ -22,23 +22,8 @@ public final class TracesTest {
         Check.end();
     }
 
-    /** Tables 0 and 1 with a key, a number and a nullable number each, and views of all kinds. */
-    private static QueryLineage catalogue() {
-        QueryLineage x = new QueryLineage();
-        Fixture.table(x, new int[] {1, 10, 3}, new int[] {2, 20, -1});
-        Fixture.table(x, new int[] {1, 10, 3}, new int[] {2, 30, -1});
-        x.star(0);
-        x.pick(0, 2, 0, -1);
-        x.filter(0, 2, 3);
-        x.join(4, 1, 1, 1, false);
-        x.join(4, 1, 1, 1, true);
-        x.union(4, 1);
-        x.sum(7, 1, 2);
-        return x;
-    }
-
     private static void effect() {
-        QueryLineage x = catalogue();
+        QueryLineage x = Fixture.catalogue();
         Check.same("a column on itself", x.effect(0, 1, 0, 1), 'v');
         Check.same("a column on another one", x.effect(0, 1, 0, 2), 'n');
         Check.same("a column of another table", x.effect(0, 1, 1, 1), 'n');
@@ -67,7 +52,7 @@ public final class TracesTest {
     }
 
     private static void changes() {
-        QueryLineage x = catalogue();
+        QueryLineage x = Fixture.catalogue();
         String before = Fixture.shown(x, 0);
         Check.same("the column itself", x.changes(0, 0, 1, 11, 0, 1), true);
         Check.same("another column", x.changes(0, 0, 1, 11, 0, 2), false);
@@ -87,7 +72,7 @@ public final class TracesTest {
     }
 
     private static void changesWrongly() {
-        QueryLineage x = catalogue();
+        QueryLineage x = Fixture.catalogue();
         Check.fails("no table", BOUNDS, () -> x.changes(9, 0, 0, 500, 0, 0));
         Check.fails("no relation", BOUNDS, () -> x.changes(2, 0, 0, 500, 9, 0));
         Check.fails("no row", BOUNDS, () -> x.changes(0, 2, 0, 500, 0, 0));
@@ -118,7 +103,7 @@ public final class TracesTest {
     }
 
     private static void valuesAndControls() {
-        QueryLineage x = catalogue();
+        QueryLineage x = Fixture.catalogue();
         Check.same("values of a table", x.values(0, 1), 1);
         Check.same("controls of a table", x.controls(0), 0);
         Check.same("controls of a star", x.controls(2), 0);
@@ -136,7 +121,7 @@ public final class TracesTest {
     }
 
     private static void firstOrigins() {
-        QueryLineage x = catalogue();
+        QueryLineage x = Fixture.catalogue();
         Check.same("table of a table", x.firstTable(1, 2), 1);
         Check.same("column of a table", x.firstColumn(1, 2), 2);
         Check.same("table over a join", x.firstTable(5, 4), 1);
@@ -178,7 +163,7 @@ public final class TracesTest {
     }
 
     private static void neverNull() {
-        QueryLineage x = catalogue();
+        QueryLineage x = Fixture.catalogue();
         Check.same("key", x.isNeverNull(0, 0), true);
         Check.same("not nullable", x.isNeverNull(0, 1), true);
         Check.same("nullable", x.isNeverNull(0, 2), false);
@@ -211,7 +196,7 @@ public final class TracesTest {
     }
 
     private static void neverTwice() {
-        QueryLineage x = catalogue();
+        QueryLineage x = Fixture.catalogue();
         Check.same("key", x.isNeverTwice(0, 0), true);
         Check.same("no key", x.isNeverTwice(0, 1), false);
         Check.same("star", x.isNeverTwice(2, 0), true);
@@ -237,7 +222,7 @@ public final class TracesTest {
     }
 
     private static void users() {
-        QueryLineage x = catalogue();
+        QueryLineage x = Fixture.catalogue();
         Check.same("directly or over others", x.users(0), 7);
         Check.same("of the second source", x.users(1), 4);
         Check.same("of a star", x.users(2), 0);
@@ -267,7 +252,7 @@ public final class TracesTest {
     }
 
     private static void meanValues() {
-        QueryLineage x = catalogue();
+        QueryLineage x = Fixture.catalogue();
         Check.same("of a table", x.meanValues(0), 1.0);
         Check.same("of a union", x.meanValues(7), 2.0);
         QueryLineage y = new QueryLineage();
@@ -281,7 +266,7 @@ public final class TracesTest {
     }
 
     private static void noSuchRelationOrColumn() {
-        QueryLineage x = catalogue();
+        QueryLineage x = Fixture.catalogue();
         for (int relation : new int[] {-1, 9, Integer.MIN_VALUE, Integer.MAX_VALUE}) {
             Check.fails("values", BOUNDS, () -> x.values(relation, 0));
             Check.fails("controls", BOUNDS, () -> x.controls(relation));
